@@ -37,7 +37,8 @@ public final class ClearTest {
         due.is("edit(0, 1, 0, 0)", x.edit(0, 1, 0L, 0), -1);
     }
 
-    private static void nothingLeadsAnywhere() {
+    /** From each state each symbol led on, before all was cleared. */
+    private static EditedScanner clearedArrows() {
         EditedScanner x = new EditedScanner();
         for (int state = 0; state < 20; state++) {
             for (int symbol = 0; symbol < 10; symbol++) {
@@ -45,23 +46,28 @@ public final class ClearTest {
             }
         }
         x.clear();
-        x.kind(0, 1);
+        return x;
+    }
+
+    private static void nothingLeadsAnywhere() {
+        EditedScanner first = clearedArrows();
         for (int symbol = 0; symbol < 10; symbol++) {
-            x.edit(0, 0, symbol, 1);
-            due.found("symbol " + symbol, x, "0!/1");
-            x.edit(0, 1, 0L, 0);
+            due.is("edit of symbol " + symbol, first.edit(0, 0, symbol, 1), 1);
+            first.edit(0, 1, 0L, 0);
         }
         for (int state = 1; state < 20; state++) {
-            x.clear();
+            EditedScanner x = clearedArrows();
             x.arrow(0, 0, state);
-            x.edit(0, 0, 0x01, 2);
-            due.found("01 by state " + state, x, "0!/2");
+            for (int symbol = 0; symbol < 10; symbol++) {
+                due.is("edit by state " + state, x.edit(0, 0, symbol, 2), 2);
+                x.edit(0, 2, 0L, 0);
+            }
         }
     }
 
     private static void noStateHasAKind() {
-        EditedScanner x = new EditedScanner();
         for (int state = 0; state < 20; state++) {
+            EditedScanner x = new EditedScanner();
             for (int other = 0; other < 20; other++) {
                 x.kind(other, 33);
             }
@@ -69,7 +75,6 @@ public final class ClearTest {
             x.arrow(0, 1, state);
             x.edit(0, 0, 0x12, 2);
             due.found("12 by state " + state, x, "0!/2");
-            x.edit(0, 2, 0L, 0);
         }
     }
 

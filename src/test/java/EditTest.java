@@ -6,6 +6,7 @@ public final class EditTest {
         theFirstSymbolIsHighest();
         bitsAboveAreNotSeen();
         wrongOnesAreRefused();
+        noSymbolIsAboveNine();
         aRefusedOneChangesNothing();
         atMostFourHundred();
         aTokenThatLookedAtThePlaceIsScanned();
@@ -76,14 +77,21 @@ public final class EditTest {
             due.is("out " + out, x.edit(2, out, 0L, 1), -1);
         }
         due.is("out and place wrap", x.edit(Integer.MAX_VALUE, Integer.MAX_VALUE, 0L, 0), -1);
+        text(x, "1234");
+    }
+
+    private static void noSymbolIsAboveNine() {
         for (int n = 1; n <= 16; n++) {
+            EditedScanner x = Samples.singles();
             for (int i = 0; i < n; i++) {
                 for (long nibble = 10; nibble < 16; nibble++) {
-                    due.is("nibble", x.edit(0, 0, nibble << 4 * i, n), -1);
+                    String name = nibble + " as symbol " + i + " from behind of " + n;
+                    due.is(name, x.edit(0, 0, nibble << 4 * i, n), -1);
                 }
             }
+            due.is("count(1)", x.count(1), 0);
+            due.is("nines", x.edit(0, 0, 0x9999999999999999L, n), 1);
         }
-        text(x, "1234");
     }
 
     private static void aRefusedOneChangesNothing() {
@@ -153,7 +161,7 @@ public final class EditTest {
         due.found("21112211211", x, "0+5:9/6 5+4:9/5 9+2:7/3");
         edit(x, 1, 2, "", 4, 1);
         due.found("212211211", x, "0+3:9/4 3+4:9/5 7+2:7/3");
-        // The 2 that ended the first token is one of its own now; only behind it is one that is old.
+        // The 2 that ended the first token is one of its own now; the one behind it is old.
         edit(x, 1, 1, "", 2 + 2, 2);
         due.found("22211211", x, "0+1:3/2 1+1:3/2 2+4:9/5 6+2:7/3");
     }

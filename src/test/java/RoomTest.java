@@ -4,18 +4,25 @@ import java.lang.management.ManagementFactory;
 /** All calls of a run live in one room: calls on an object make no objects of their own. */
 public final class RoomTest {
     private static final Due due = new Due("RoomTest");
-    private static final int ROUNDS = 2000;
-    // Far below one small object a call, and above what measuring itself takes.
-    private static final long ALLOWED_BYTES = 8 * ROUNDS;
+    private static final int OBJECTS = 50;
+    // Ten calls each, so that no object is used for more calls than the document promises.
+    private static final int ROUNDS = 40;
+    // Below the smallest object a round, and above what measuring itself takes.
+    private static final long ALLOWED_BYTES = 8 * OBJECTS * ROUNDS;
 
     public static void main(String[] args) {
         ThreadMXBean threads = (ThreadMXBean) ManagementFactory.getThreadMXBean();
-        EditedScanner x = Samples.singles();
-        useAll(x);
+        EditedScanner[] scanners = new EditedScanner[OBJECTS];
+        for (int i = 0; i < OBJECTS; i++) {
+            scanners[i] = Samples.singles();
+            useAll(scanners[i]);
+        }
         long thread = Thread.currentThread().getId();
         long before = threads.getThreadAllocatedBytes(thread);
-        for (int i = 0; i < ROUNDS; i++) {
-            useAll(x);
+        for (EditedScanner x : scanners) {
+            for (int i = 0; i < ROUNDS; i++) {
+                useAll(x);
+            }
         }
         long made = threads.getThreadAllocatedBytes(thread) - before;
         due.is("calls made " + made + " bytes, which is small", made < ALLOWED_BYTES, true);
