@@ -10,6 +10,9 @@ public final class ArrowTest {
         anArrowIsTurned();
         aTextThatIsNotEmptyRefuses();
         anEmptiedTextTakesArrows();
+        nowhereIsNoStateToLeadFrom();
+        noOtherArrowIsMeant();
+        aTextOfAnySizeRefuses();
         due.end();
     }
 
@@ -89,5 +92,57 @@ public final class ArrowTest {
         due.is("arrow(1, 1, -1)", x.arrow(1, 1, -1), true);
         Samples.edit(x, 0, 0, "11");
         due.found("11", x, "0+1:7/2 1+1:7/2");
+    }
+
+    /** "or nowhere (-1): true", for one that led nowhere before, too. */
+    private static void nowhereIsNoStateToLeadFrom() {
+        EditedScanner x = new EditedScanner();
+        due.is("arrow(0, 0, -1)", x.arrow(0, 0, -1), true);
+        due.is("arrow(19, 9, -1)", x.arrow(19, 9, -1), true);
+        due.is("arrow(0, 0, -2)", x.arrow(0, 0, -2), false);
+        due.is("arrow(-1, 0, 0)", x.arrow(-1, 0, 0), false);
+        due.is("arrow(-1, 0, -1)", x.arrow(-1, 0, -1), false);
+        due.is("arrow(0, -1, -1)", x.arrow(0, -1, -1), false);
+        x.kind(0, 1);
+        Samples.edit(x, 0, 0, "0");
+        due.found("0", x, "0!/1");
+    }
+
+    /** "false if there is no such state or symbol": not that of the row's next or last state. */
+    private static void noOtherArrowIsMeant() {
+        int[][] wrong = {{0, 10}, {1, -1}, {0, 20}, {-1, 19}, {20, -10}, {-1, 10}, {2, -10}};
+        for (int[] one : wrong) {
+            EditedScanner x = new EditedScanner();
+            due.is("arrow(" + one[0] + ", " + one[1] + ", 0)", x.arrow(one[0], one[1], 0), false);
+            x.kind(0, 1);
+            x.kind(1, 1);
+            x.arrow(0, 5, 1);
+            Samples.edit(x, 0, 0, "50");
+            due.found("50 behind " + one[0] + ", " + one[1], x, "0+1:1/2 1!/1");
+            Samples.edit(x, 0, 2, "9");
+            due.found("9 behind " + one[0] + ", " + one[1], x, "0!/1");
+        }
+    }
+
+    /** "or the text is not empty": with one symbol, with 400, with tokens or a failure. */
+    private static void aTextOfAnySizeRefuses() {
+        EditedScanner one = Samples.zeros();
+        one.edit(0, 0, 0L, 1);
+        EditedScanner failed = Samples.zeros();
+        failed.edit(0, 0, 1L, 1);
+        EditedScanner[] texts = {one, failed, Samples.fullOfSingles(), Samples.fullOfZeros(),
+            Samples.fullWithFailure()};
+        for (EditedScanner x : texts) {
+            int size = x.count(1);
+            due.is("arrow(0, 0, 0) at size " + size, x.arrow(0, 0, 0), false);
+            due.is("arrow(0, 0, -1) at size " + size, x.arrow(0, 0, -1), false);
+            due.is("arrow(19, 9, 19) at size " + size, x.arrow(19, 9, 19), false);
+            due.is("arrow(20, 9, 19) at size " + size, x.arrow(20, 9, 19), false);
+            x.edit(0, size, 0L, 0);
+            due.is("arrow(0, 0, 0) when emptied", x.arrow(0, 0, 0), true);
+        }
+        EditedScanner edited = Samples.zeros();
+        edited.edit(0, 0, 0L, 0);
+        due.is("arrow behind an edit of nothing", edited.arrow(0, 0, 0), true);
     }
 }

@@ -1,3 +1,5 @@
+import java.util.List;
+
 /** Promise 9: clear. */
 public final class ClearTest {
     private static final Due due = new Due("ClearTest");
@@ -8,6 +10,9 @@ public final class ClearTest {
         nothingLeadsAnywhere();
         noStateHasAKind();
         itIsUsedAgain();
+        boundsOfItsAnswer();
+        everyAnswerIsThatOfANewObject();
+        aFullTextIsEmptyAgain();
         due.end();
     }
 
@@ -87,5 +92,52 @@ public final class ClearTest {
         due.is("edit of 11", Samples.edit(x, 0, 0, "11"), 4);
         due.found("11", x, "0+1:60/2 1+1:60/2");
         due.is("count(6)", x.count(6), 1);
+    }
+
+    /** "how many tokens there were": none, one, 399 (a failure is none), 400. */
+    private static void boundsOfItsAnswer() {
+        due.is("clear() of a new object", new EditedScanner().clear(), 0);
+        due.is("clear() of one token of 400", Samples.fullOfZeros().clear(), 1);
+        due.is("clear() of 399 and a failure", Samples.fullWithFailure().clear(), 399);
+        due.is("clear() of 400 tokens", Samples.fullOfSingles().clear(), 400);
+        EditedScanner failed = Samples.singles();
+        Samples.edit(failed, 0, 0, "91");
+        due.is("clear() of a failure", failed.clear(), 0);
+        EditedScanner emptied = Samples.fullOfSingles();
+        emptied.edit(0, 400, 0L, 0);
+        due.is("clear() of an emptied text", emptied.clear(), 0);
+    }
+
+    /** "The text is empty, .. there were no edits": every answer is that of a new object. */
+    private static void everyAnswerIsThatOfANewObject() {
+        for (List<Questions.Question> part : new Questions(400, 400).parts()) {
+            int[] want = Questions.answers(part, new EditedScanner());
+            EditedScanner[] texts = {Samples.fullOfSingles(), Samples.fullOfZeros(),
+                Samples.fullWithFailure()};
+            for (EditedScanner x : texts) {
+                x.clear();
+                int[] got = Questions.answers(part, x);
+                for (int i = 0; i < got.length; i++) {
+                    due.is(part.get(i).name() + " when cleared", got[i], want[i]);
+                }
+            }
+        }
+    }
+
+    /** "The text is empty": the table can be set, 400 can be put in, none can be taken out. */
+    private static void aFullTextIsEmptyAgain() {
+        EditedScanner x = Samples.fullOfSingles();
+        x.clear();
+        due.is("edit(0, 1, 0, 0)", x.edit(0, 1, 0L, 0), -1);
+        due.is("edit(1, 0, 0, 0)", x.edit(1, 0, 0L, 0), -1);
+        due.is("arrow(0, 0, 0)", x.arrow(0, 0, 0), true);
+        due.is("kind(0, 5)", x.kind(0, 5), true);
+        for (int i = 0; i < 25; i++) {
+            due.is("edit " + i, x.edit(0, 0, 0L, 16), 16 * i + 17);
+        }
+        due.found("400 0", x, "0+400:5/401");
+        due.is("count(6)", x.count(6), 25);
+        due.is("clear()", x.clear(), 1);
+        due.is("clear() again", x.clear(), 0);
     }
 }

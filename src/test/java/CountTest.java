@@ -9,6 +9,12 @@ public final class CountTest {
         itIsOfTheLastEdit();
         refusedEditsDoNotCount();
         anotherWhat();
+        countsOfFullTexts();
+        whereScanningFailed();
+        whatTheFailureLookedAt();
+        aFailureScannedAnewIsNoToken();
+        everyEditCounts();
+        anotherWhatOfAnyText();
         due.end();
     }
 
@@ -81,6 +87,84 @@ public final class CountTest {
         int[] noWhat = {-1, -2, 7, 8, 100, Integer.MIN_VALUE, Integer.MAX_VALUE};
         for (int what : noWhat) {
             due.is("count(" + what + ")", x.count(what), -1);
+        }
+    }
+
+    private static void countsOfFullTexts() {
+        counts("400 tokens", Samples.fullOfSingles(), 400, 400, -1, 0, 34, 17, 25);
+        counts("one token of 400", Samples.fullOfZeros(), 1, 400, -1, 0, 401, 1, 25);
+        counts("399 and a failure", Samples.fullWithFailure(), 399, 400, 399, 1, 3, 1, 26);
+    }
+
+    /** "2 where scanning failed (-1: it did not)": at the first, the last place, and not. */
+    private static void whereScanningFailed() {
+        EditedScanner x = Samples.fullOfSingles();
+        due.is("count(2) of none", x.count(2), -1);
+        x.edit(399, 1, 9L, 1);
+        due.is("count(2) at the last", x.count(2), 399);
+        x.edit(0, 1, 9L, 1);
+        due.is("count(2) at the first", x.count(2), 0);
+        x.edit(0, 1, 0L, 1);
+        due.is("count(2) at the last again", x.count(2), 399);
+        x.edit(399, 1, 0L, 1);
+        due.is("count(2) of none again", x.count(2), -1);
+        x.edit(0, 1, 9L, 1);
+        x.edit(0, 400, 0L, 0);
+        due.is("count(2) of no text", x.count(2), -1);
+        due.is("count(3) of no text", x.count(3), 0);
+    }
+
+    /** "3 how many it looked at there (0)", the end, too. */
+    private static void whatTheFailureLookedAt() {
+        EditedScanner x = Samples.zeros();
+        x.kind(0, -1);
+        due.is("count(3) of no text", x.count(3), 0);
+        for (int i = 0; i < 25; i++) {
+            x.edit(0, 0, 0L, 16);
+        }
+        counts("400 that lead nowhere", x, 0, 400, 0, 401, 401, 0, 25);
+        x.edit(0, 1, 1L, 1);
+        due.is("count(3) of one that leads nowhere", x.count(3), 1);
+        x.edit(0, 400, 0L, 0);
+        due.is("count(3) of no text again", x.count(3), 0);
+    }
+
+    /** "5 tokens that it scanned anew (a failure is none)" */
+    private static void aFailureScannedAnewIsNoToken() {
+        EditedScanner x = Samples.onesAndQuotes();
+        x.arrow(0, 4, 5);
+        Samples.edit(x, 0, 0, "4");
+        counts("4", x, 0, 1, 0, 2, 2, 0, 1);
+        Samples.edit(x, 1, 0, "1");
+        counts("41", x, 0, 2, 0, 2, 2, 0, 2);
+        Samples.edit(x, 0, 0, "1");
+        counts("141", x, 1, 3, 1, 2, 2, 1, 3);
+        Samples.edit(x, 2, 0, "");
+        counts("141 and nothing", x, 1, 3, 1, 2, 2, 0, 4);
+    }
+
+    /** "6 edits": those that read nothing, or change nothing, too. */
+    private static void everyEditCounts() {
+        EditedScanner x = Samples.singles();
+        x.edit(0, 0, 0L, 0);
+        counts("nothing", x, 0, 0, -1, 0, 0, 0, 1);
+        x.edit(0, 0, 9L, 1);
+        x.edit(1, 0, 9L, 1);
+        counts("nothing read", x, 0, 2, 0, 1, 0, 0, 3);
+        x.edit(0, 1, 9L, 1);
+        counts("the same put in again", x, 0, 2, 0, 1, 1, 0, 4);
+        x.edit(0, 2, 0L, 0);
+        counts("all taken out", x, 0, 0, -1, 0, 0, 0, 5);
+    }
+
+    /** "-1 for another what", of any text. */
+    private static void anotherWhatOfAnyText() {
+        EditedScanner[] texts = {new EditedScanner(), Samples.fullOfSingles(),
+            Samples.fullOfZeros(), Samples.fullWithFailure()};
+        for (EditedScanner x : texts) {
+            for (int what : new int[] {Integer.MIN_VALUE, -1, 7, 8, 400, Integer.MAX_VALUE}) {
+                due.is("count(" + what + ")", x.count(what), -1);
+            }
         }
     }
 }

@@ -1,4 +1,4 @@
-/** Promise 4: edit, and with it what is scanned anew and what is read. */
+/** Promise 4: edit. What it scans anew is in AnewTest. */
 public final class EditTest {
     private static final Due due = new Due("EditTest");
 
@@ -9,27 +9,14 @@ public final class EditTest {
         noSymbolIsAboveNine();
         aRefusedOneChangesNothing();
         atMostFourHundred();
-        aTokenThatLookedAtThePlaceIsScanned();
-        aTokenThatLookedFarIsTheFirst();
-        oldTokensStayBehindTheEdit();
-        oldTokensStayJustBehindWhatIsPutIn();
-        noneBeginsAmongWhatIsPutIn();
-        oldBeginsAmongWhatIsTakenOutDoNotCount();
-        theFirstOneIsOldAtOnce();
-        theOldFailureStays();
-        theOldFailureIsNotSeen();
-        theOldEndEndsIt();
-        behindAFailureNothingIsScanned();
-        nothingOutAndNothingIn();
-        theEmptyText();
+        everyLengthIsPutIn();
+        theLeastAndTheGreatestLong();
+        nIs0To16();
+        asManyAsThereAreBehindThePlace();
+        placesOfAnEmptyAndAFullText();
+        whatIsTakenOutMakesRoom();
+        itAnswersWhatIsRead();
         due.end();
-    }
-
-    private static void edit(EditedScanner x, int place, int out, String in, int read, int anew) {
-        String name = "edit(" + place + ", " + out + ", " + in + ")";
-        due.is(name, Samples.edit(x, place, out, in), read);
-        due.is(name + " count(4)", x.count(4), read);
-        due.is(name + " count(5)", x.count(5), anew);
     }
 
     private static void text(EditedScanner x, String want) {
@@ -48,6 +35,7 @@ public final class EditTest {
         text(y, "9876543210987654");
     }
 
+    /** "of the lowest 4 * n": what lies above them is no symbol. */
     private static void bitsAboveAreNotSeen() {
         EditedScanner x = Samples.singles();
         due.is("edit of 1 below fs", x.edit(0, 0, 0xfffffffffffffff1L, 1), 2);
@@ -80,6 +68,7 @@ public final class EditTest {
         text(x, "1234");
     }
 
+    /** "one of them above 9": each of them, with each that is above. */
     private static void noSymbolIsAboveNine() {
         for (int n = 1; n <= 16; n++) {
             EditedScanner x = Samples.singles();
@@ -130,167 +119,114 @@ public final class EditTest {
         due.is("count(6)", x.count(6), 29);
     }
 
-    private static void aTokenThatLookedAtThePlaceIsScanned() {
-        EditedScanner x = Samples.singles();
-        edit(x, 0, 0, "1234", 8, 4);
-        edit(x, 2, 1, "5", 4, 2);
-        due.found("1254", x, "0+1:11/2 1+1:12/2 2+1:15/2 3+1:14/2");
-        edit(x, 4, 0, "6", 4, 2);
-        edit(x, 0, 1, "7", 2, 1);
+    /** "n put in: four bits each in symbols, the first one highest of the lowest 4 * n" */
+    private static void everyLengthIsPutIn() {
+        String digits = "9182736450918273";
+        for (int n = 0; n <= 16; n++) {
+            EditedScanner x = new EditedScanner();
+            String want = digits.substring(16 - n);
+            due.is("edit of " + n, x.edit(0, 0, Samples.pack(digits), n), n == 0 ? 0 : 1);
+            text(x, want);
+            if (n > 0) {
+                x.edit(n, 0, -16L, 1);
+                text(x, want + "0");
+            }
+        }
     }
 
-    /** The first token looks at all 1s behind it, up to an end or a 2. */
-    private static void aTokenThatLookedFarIsTheFirst() {
-        EditedScanner x = Samples.onesAndQuotes();
-        x.arrow(1, 1, -1);
-        edit(x, 0, 0, "21111", 6 + 2 * 4, 5);
-        edit(x, 5, 0, "3", 6 + 2 * 4 + 1, 5);
-        due.found("211113", x, "0+1:3/6 1+1:7/2 2+1:7/2 3+1:7/2 4+1:7/2 5!/1");
-        // From the first one on, and each of those ahead of the edit, but not the 1 behind it.
-        edit(x, 3, 1, "1", 6 + 2 * 3, 4);
-        due.found("211113", x, "0+1:3/6 1+1:7/2 2+1:7/2 3+1:7/2 4+1:7/2 5!/1");
-        edit(x, 5, 1, "2", 7, 1);
-        due.found("211112", x, "0+6:9/7");
-    }
-
-    private static void oldTokensStayBehindTheEdit() {
-        EditedScanner x = Samples.onesAndQuotes();
-        edit(x, 0, 0, "2112211211", 5 + 5 + 3, 3);
-        due.found("2112211211", x, "0+4:9/5 4+4:9/5 8+2:7/3");
-        edit(x, 1, 0, "1", 6, 1);
-        due.found("21112211211", x, "0+5:9/6 5+4:9/5 9+2:7/3");
-        edit(x, 1, 2, "", 4, 1);
-        due.found("212211211", x, "0+3:9/4 3+4:9/5 7+2:7/3");
-        // The 2 that ended the first token is one of its own now; the one behind it is old.
-        edit(x, 1, 1, "", 2 + 2, 2);
-        due.found("22211211", x, "0+1:3/2 1+1:3/2 2+4:9/5 6+2:7/3");
-    }
-
-    private static void oldTokensStayJustBehindWhatIsPutIn() {
-        EditedScanner x = Samples.singles();
-        edit(x, 0, 0, "1234", 8, 4);
-        edit(x, 0, 0, "56", 4, 2);
-        due.found("561234", x, "0+1:15/2 1+1:16/2 2+1:11/2 3+1:12/2 4+1:13/2 5+1:14/2");
-        edit(x, 6, 0, "78", 6, 3);
-        edit(x, 3, 3, "", 2, 1);
-        due.found("56178", x, "0+1:15/2 1+1:16/2 2+1:11/2 3+1:17/2 4+1:18/2");
-    }
-
-    /** An old token begins at the same place as one that is put in, but it is not old. */
-    private static void noneBeginsAmongWhatIsPutIn() {
-        EditedScanner x = Samples.singles();
-        edit(x, 0, 0, "12345678", 16, 8);
-        edit(x, 2, 0, "1234", 10, 5);
-        edit(x, 2, 4, "5678", 10, 5);
-        due.is("token(5, 2)", x.token(5, 2), 18);
-        text(x, "125678345678");
-    }
-
-    private static void oldBeginsAmongWhatIsTakenOutDoNotCount() {
-        EditedScanner x = Samples.singles();
-        edit(x, 0, 0, "12345678", 16, 8);
-        edit(x, 1, 5, "8", 4, 2);
-        due.found("1878", x, "0+1:11/2 1+1:18/2 2+1:17/2 3+1:18/2");
-        edit(x, 1, 2, "", 2, 1);
-        due.found("18", x, "0+1:11/2 1+1:18/2");
-    }
-
-    private static void theFirstOneIsOldAtOnce() {
-        EditedScanner x = Samples.onesAndQuotes();
-        edit(x, 0, 0, "1112112211", 4 + 5 + 4 + 3, 4);
-        due.found("1112112211", x, "0+3:7/4 3+4:9/5 7+1:3/4 8+2:7/3");
-        edit(x, 0, 3, "", 0, 0);
-        due.found("2112211", x, "0+4:9/5 4+1:3/4 5+2:7/3");
-        edit(x, 0, 0, "", 0, 0);
-        edit(x, 0, 5, "", 0, 0);
-        due.found("11", x, "0+2:7/3");
-        // Where one was put in, the first one is not old, though it begins where it did.
-        edit(x, 0, 0, "2", 4, 1);
-        due.found("211", x, "0+1:3/4 1+2:7/3");
-        edit(x, 0, 2, "", 2, 1);
-        due.found("1", x, "0+1:7/2");
-    }
-
-    private static void theOldFailureStays() {
-        EditedScanner x = Samples.onesAndQuotes();
-        edit(x, 0, 0, "11225", 3 + 2 + 2 + 1, 3);
-        due.found("11225", x, "0+2:7/3 2+1:3/2 3+1:3/2 4!/1");
-        edit(x, 1, 0, "1", 4, 1);
-        due.found("111225", x, "0+3:7/4 3+1:3/2 4+1:3/2 5!/1");
-        edit(x, 0, 3, "", 0, 0);
-        due.found("225", x, "0+1:3/2 1+1:3/2 2!/1");
-        edit(x, 0, 2, "", 0, 0);
-        due.found("5", x, "0!/1");
-        edit(x, 0, 0, "1", 2, 1);
-        due.found("15", x, "0+1:7/2 1!/1");
-    }
-
-    /** Scanning anew goes past the old failure, up to the end. */
-    private static void theOldFailureIsNotSeen() {
+    /** The least long has an 8 as its first symbol, the greatest one fifteen that are none. */
+    private static void theLeastAndTheGreatestLong() {
         EditedScanner x = new EditedScanner();
-        x.arrow(0, 1, 1);
-        x.kind(1, 1);
-        x.arrow(0, 3, 2);
-        x.arrow(2, 5, 3);
-        x.kind(3, 2);
-        edit(x, 0, 0, "1511", 3, 1);
-        due.found("1511", x, "0+1:1/2 1!/1");
-        edit(x, 1, 0, "3", 2 + 3 + 2 + 2, 4);
-        due.found("13511", x, "0+1:1/2 1+2:2/3 3+1:1/2 4+1:1/2");
-        edit(x, 1, 1, "", 3, 1);
-        due.found("1511", x, "0+1:1/2 1!/1");
+        due.is("the greatest, 16", x.edit(0, 0, Long.MAX_VALUE, 16), -1);
+        due.is("the greatest, 15", x.edit(0, 0, Long.MAX_VALUE, 15), -1);
+        due.is("the greatest, 1", x.edit(0, 0, Long.MAX_VALUE, 1), -1);
+        due.is("the greatest, 0", x.edit(0, 0, Long.MAX_VALUE, 0), 0);
+        due.is("-1, 16", x.edit(0, 0, -1L, 16), -1);
+        due.is("-1, 1", x.edit(0, 0, -1L, 1), -1);
+        due.is("-1, 0", x.edit(0, 0, -1L, 0), 0);
+        text(x, "");
+        due.is("the least, 16", x.edit(0, 0, Long.MIN_VALUE, 16), 1);
+        text(x, "8000000000000000");
+        due.is("the least, 15", x.edit(0, 16, Long.MIN_VALUE, 15), 1);
+        text(x, "000000000000000");
+        due.is("the least, 0", x.edit(0, 15, Long.MIN_VALUE, 0), 0);
+        text(x, "");
+        due.is("9s", x.edit(0, 0, 0x9999999999999999L, 16), 1);
+        text(x, "9999999999999999");
+        due.is("9s and an a", x.edit(0, 0, 0x999999999999999aL, 16), -1);
+        due.is("an a and 9s", x.edit(0, 0, 0xa999999999999999L, 16), -1);
     }
 
-    private static void theOldEndEndsIt() {
+    /** "refused, if n is not 0 .. 16" */
+    private static void nIs0To16() {
+        for (EditedScanner x : new EditedScanner[] {Samples.zeros(), Samples.fullOfZeros()}) {
+            int size = x.count(1);
+            for (int n : new int[] {Integer.MIN_VALUE, -16, -1, 17, 32, 64, Integer.MAX_VALUE}) {
+                due.is("edit(0, 0, 0, " + n + ")", x.edit(0, 0, 0L, n), -1);
+                due.is("edit(0, all, 0, " + n + ")", x.edit(0, size, 0L, n), -1);
+            }
+            due.is("edit(0, all, 0, 16)", x.edit(0, size, 0L, 16), 17);
+            due.is("edit(0, 16, 0, 0)", x.edit(0, 16, 0L, 0), 0);
+        }
+    }
+
+    /** "there are not as many to be taken out", at every place of a text. */
+    private static void asManyAsThereAreBehindThePlace() {
+        for (int place = 0; place <= 5; place++) {
+            EditedScanner x = Samples.singles();
+            Samples.edit(x, 0, 0, "12345");
+            int left = 5 - place;
+            due.is("one more than left at " + place, x.edit(place, left + 1, 0L, 0), -1);
+            due.is("one less than none at " + place, x.edit(place, -1, 0L, 0), -1);
+            due.is("far more at " + place, x.edit(place, Integer.MAX_VALUE, 0L, 0), -1);
+            due.is("far less at " + place, x.edit(place, Integer.MIN_VALUE, 0L, 0), -1);
+            due.is("wrapped round at " + place, x.edit(place, -place, 0L, 1), place > 0 ? -1 : 2);
+            text(x, place > 0 ? "12345" : "012345");
+        }
+        for (int place = 0; place <= 5; place++) {
+            EditedScanner x = Samples.singles();
+            Samples.edit(x, 0, 0, "12345");
+            due.is("all that are left", x.edit(place, 5 - place, 0L, 0) >= 0, true);
+            text(x, "12345".substring(0, place));
+        }
+    }
+
+    /** Behind the last symbol of a text none is to be taken out, and no place is behind its end. */
+    private static void placesOfAnEmptyAndAFullText() {
+        for (EditedScanner x : new EditedScanner[] {Samples.singles(), Samples.fullOfSingles()}) {
+            int size = x.count(1);
+            int[] wrong = {Integer.MIN_VALUE, -1, size + 1, Integer.MAX_VALUE};
+            for (int place : wrong) {
+                due.is("edit(" + place + ", 0, 0, 0)", x.edit(place, 0, 0L, 0), -1);
+                due.is("edit(" + place + ", 1, 0, 1)", x.edit(place, 1, 0L, 1), -1);
+                due.is("edit(" + place + ", -1, 0, 0)", x.edit(place, -1, 0L, 0), -1);
+                due.is("edit(0, " + place + ", 0, 0)", x.edit(0, place, 0L, 0), -1);
+            }
+            due.is("edit(size, 1, 0, 0)", x.edit(size, 1, 0L, 0), -1);
+            due.is("edit(size, 0, 0, 0)", x.edit(size, 0, 0L, 0), size == 0 ? 0 : 2);
+            due.is("count(1)", x.count(1), size);
+        }
+    }
+
+    /** "or the text would have more than 400": what is taken out makes room. */
+    private static void whatIsTakenOutMakesRoom() {
+        for (int out = 0; out <= 16; out++) {
+            EditedScanner x = Samples.fullOfSingles();
+            if (out < 16) {
+                due.is(out + 1 + " for " + out, x.edit(7, out, 0L, out + 1), -1);
+                due.is("16 for " + out, x.edit(7, out, 0L, 16), -1);
+            }
+            due.is(out + " for " + out, x.edit(7, out, 0L, out), out == 0 ? 2 : 2 * out + 2);
+            due.is("count(1)", x.count(1), 400);
+        }
+    }
+
+    /** "how many symbols (and ends) are read" */
+    private static void itAnswersWhatIsRead() {
         EditedScanner x = Samples.onesAndQuotes();
-        edit(x, 0, 0, "1122", 3 + 2 + 2, 3);
-        edit(x, 3, 1, "", 2, 1);
-        due.found("112", x, "0+2:7/3 2+1:3/2");
-        edit(x, 0, 3, "", 0, 0);
-        due.found("nothing", x, "");
-        EditedScanner failed = Samples.singles();
-        edit(failed, 0, 0, "1293", 5, 2);
-        edit(failed, 0, 4, "", 0, 0);
-        due.found("nothing", failed, "");
-        due.is("count(2)", failed.count(2), -1);
-    }
-
-    private static void behindAFailureNothingIsScanned() {
-        EditedScanner x = Samples.singles();
-        edit(x, 0, 0, "1293", 5, 2);
-        edit(x, 3, 1, "12", 0, 0);
-        text(x, "12912");
-        edit(x, 5, 0, "3", 0, 0);
-        edit(x, 3, 3, "", 0, 0);
-        text(x, "129");
-        due.found("129", x, "0+1:11/2 1+1:12/2 2!/1");
-        due.is("count(6)", x.count(6), 4);
-        edit(x, 2, 0, "", 2, 1);
-        due.found("129", x, "0+1:11/2 1+1:12/2 2!/1");
-    }
-
-    private static void nothingOutAndNothingIn() {
-        EditedScanner x = Samples.onesAndQuotes();
-        edit(x, 0, 0, "11211", 3 + 4 + 3, 3);
-        edit(x, 0, 0, "", 0, 0);
-        edit(x, 1, 0, "", 3, 1);
-        edit(x, 2, 0, "", 3, 1);
-        edit(x, 3, 0, "", 4, 1);
-        edit(x, 5, 0, "", 4 + 3, 2);
-        due.found("11211", x, "0+2:7/3 2+1:3/4 3+2:7/3");
-        due.is("count(6)", x.count(6), 6);
-    }
-
-    private static void theEmptyText() {
-        EditedScanner x = Samples.onesAndQuotes();
-        edit(x, 0, 0, "", 0, 0);
-        due.is("count(6)", x.count(6), 1);
-        due.is("edit(1, 0, 0, 0)", x.edit(1, 0, 0L, 0), -1);
-        due.is("edit(0, 1, 0, 0)", x.edit(0, 1, 0L, 0), -1);
-        edit(x, 0, 0, "12", 4, 2);
-        edit(x, 0, 2, "21", 4 + 1, 2);
-        edit(x, 0, 2, "", 0, 0);
-        edit(x, 0, 0, "3", 1, 0);
-        due.found("3", x, "0!/1");
+        due.is("edit of 2111", Samples.edit(x, 0, 0, "2111"), 5 + 4);
+        due.is("edit of 2 behind it", Samples.edit(x, 4, 0, "2"), 6);
+        due.is("edit of 5 ahead of it", Samples.edit(x, 0, 0, "5"), 1);
+        due.is("edit of 1 at its end", Samples.edit(x, 6, 0, "1"), 0);
     }
 }

@@ -8,6 +8,8 @@ public final class NewObjectTest {
         nothingLeadsAnywhere();
         noStateHasAKind();
         objectsShareNothing();
+        fromNoStateAnythingLeads();
+        thereIsNothingAnywhere();
         due.end();
     }
 
@@ -55,5 +57,38 @@ public final class NewObjectTest {
         Samples.edit(other, 0, 0, "11");
         due.found("11 in the other one", other, "0!/1");
         due.found("1 in the one", one, "0+1:7/2");
+    }
+
+    /** "Nothing leads anywhere": from no state, by no symbol. */
+    private static void fromNoStateAnythingLeads() {
+        for (int state = 0; state < 20; state++) {
+            for (int symbol = 0; symbol < 10; symbol++) {
+                EditedScanner x = new EditedScanner();
+                x.arrow(0, 5, state);
+                x.kind(state, 8);
+                String digits = "5" + symbol;
+                Samples.edit(x, 0, 0, digits);
+                boolean circle = state == 0 && symbol == 5;
+                due.found(digits + " by state " + state, x,
+                    circle ? "0+2:8/3" : symbol == 5 && state > 0 ? "0+1:8/2 1+1:8/2"
+                        : "0+1:8/2 1!/1");
+            }
+        }
+    }
+
+    /** "an empty text": at no place, however far, there is anything. */
+    private static void thereIsNothingAnywhere() {
+        EditedScanner x = new EditedScanner();
+        for (int any : new int[] {Integer.MIN_VALUE, -1, 0, 1, 399, 400, Integer.MAX_VALUE}) {
+            for (int what = -1; what <= 4; what++) {
+                due.is("token(" + any + ", " + what + ")", x.token(any, what), -1);
+            }
+            due.is("tokenAt(" + any + ")", x.tokenAt(any), -1);
+            due.is("symbol(" + any + ")", x.symbol(any), -1);
+        }
+        due.is("edit(0, 1, 0, 0)", x.edit(0, 1, 0L, 0), -1);
+        due.is("edit(1, 0, 0, 0)", x.edit(1, 0, 0L, 0), -1);
+        due.is("arrow(0, 0, 0)", x.arrow(0, 0, 0), true);
+        due.is("kind(0, 0)", x.kind(0, 0), true);
     }
 }

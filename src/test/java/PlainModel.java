@@ -1,4 +1,5 @@
 import java.util.ArrayList;
+import java.util.Arrays;
 import java.util.List;
 
 /**
@@ -23,7 +24,7 @@ final class PlainModel {
 
     PlainModel() {
         for (int state = 0; state < 20; state++) {
-            java.util.Arrays.fill(arrows[state], -1);
+            Arrays.fill(arrows[state], -1);
             kinds[state] = -1;
         }
     }

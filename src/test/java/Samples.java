@@ -36,6 +36,43 @@ final class Samples {
         return x;
     }
 
+    /** A text of 400 symbols, each of them a token. */
+    static EditedScanner fullOfSingles() {
+        EditedScanner x = singles();
+        fill(x, 400);
+        return x;
+    }
+
+    /** A text of 400 symbols, which is one token. */
+    static EditedScanner fullOfZeros() {
+        EditedScanner x = zeros();
+        for (int i = 0; i < 25; i++) {
+            x.edit(0, 0, 0L, 16);
+        }
+        return x;
+    }
+
+    /** A text of 400 symbols: 399 tokens, and a failure at the last place. */
+    static EditedScanner fullWithFailure() {
+        EditedScanner x = singles();
+        fill(x, 399);
+        x.edit(399, 0, 9L, 1);
+        return x;
+    }
+
+    /** Puts symbols in behind the last one, at place p the symbol p % 9, up to so many. */
+    static void fill(EditedScanner x, int size) {
+        int place = x.count(1);
+        while (place < size) {
+            StringBuilder digits = new StringBuilder();
+            for (int i = 0; i < 16 && place + i < size; i++) {
+                digits.append((place + i) % 9);
+            }
+            edit(x, place, 0, digits.toString());
+            place += digits.length();
+        }
+    }
+
     static long pack(String digits) {
         long packed = 0;
         for (int i = 0; i < digits.length(); i++) {

@@ -8,6 +8,8 @@ public final class SymbolTest {
         symbolsBehindAFailureAreThere();
         symbolsMoveWithEdits();
         aFullText();
+        boundsOfPlaces();
+        boundsOfSymbols();
         due.end();
     }
 
@@ -71,5 +73,44 @@ public final class SymbolTest {
             due.is("symbol(" + place + ")", x.symbol(place), want.charAt(place) - '0');
         }
         due.is("symbol(400)", x.symbol(400), -1);
+    }
+
+    /** "-1 if there is none": in empty texts of each sort, and around one of 400. */
+    private static void boundsOfPlaces() {
+        outside(new EditedScanner(), 0);
+        outside(Samples.singles(), 0);
+        outside(Samples.fullOfSingles(), 400);
+        outside(Samples.fullWithFailure(), 400);
+        EditedScanner shrunk = Samples.fullOfSingles();
+        shrunk.edit(399, 1, 0L, 0);
+        outside(shrunk, 399);
+        due.is("symbol(398)", shrunk.symbol(398), 398 % 9);
+        shrunk.edit(0, 399, 0L, 0);
+        outside(shrunk, 0);
+        EditedScanner cleared = Samples.fullOfSingles();
+        cleared.clear();
+        outside(cleared, 0);
+    }
+
+    private static void outside(EditedScanner x, int end) {
+        int[] places = {Integer.MIN_VALUE, -400, -1, end, end + 1, 400, 401, Integer.MAX_VALUE};
+        for (int place : places) {
+            due.is("symbol(" + place + ") behind " + end, x.symbol(place), -1);
+        }
+    }
+
+    /** The lowest and the highest symbol, at the first and the last place of a full text. */
+    private static void boundsOfSymbols() {
+        EditedScanner x = Samples.fullOfSingles();
+        x.edit(0, 1, 9L, 1);
+        x.edit(399, 1, 9L, 1);
+        due.is("symbol(0)", x.symbol(0), 9);
+        due.is("symbol(399)", x.symbol(399), 9);
+        x.edit(0, 1, 0L, 1);
+        x.edit(399, 1, 0L, 1);
+        due.is("symbol(0)", x.symbol(0), 0);
+        due.is("symbol(399)", x.symbol(399), 0);
+        due.is("symbol(1)", x.symbol(1), 1);
+        due.is("symbol(398)", x.symbol(398), 398 % 9);
     }
 }

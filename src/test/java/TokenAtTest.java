@@ -7,6 +7,9 @@ public final class TokenAtTest {
         placesOutsideOfTheText();
         placesFromTheFailureOn();
         placesBehindAnEdit();
+        edgesOfTokens();
+        aFailureAtTheLastPlace();
+        textsWithoutAnything();
         due.end();
     }
 
@@ -48,5 +51,49 @@ public final class TokenAtTest {
         places(x, 0, 0, 0, 0, 0, 1, -1, -1);
         Samples.edit(x, 0, 6, "");
         places(x, -1, -1);
+    }
+
+    /** "The token in which a place lies": its first and its last place, and those beside them. */
+    private static void edgesOfTokens() {
+        EditedScanner x = Samples.fullOfSingles();
+        for (int place = 0; place < 400; place++) {
+            due.is("tokenAt(" + place + ")", x.tokenAt(place), place);
+        }
+        outside(x, 400);
+        EditedScanner y = Samples.fullOfZeros();
+        for (int place = 0; place < 400; place++) {
+            due.is("tokenAt(" + place + ")", y.tokenAt(place), 0);
+        }
+        outside(y, 400);
+    }
+
+    /** "-1 if it lies in none": at the failure, and from there on. */
+    private static void aFailureAtTheLastPlace() {
+        EditedScanner x = Samples.fullWithFailure();
+        due.is("tokenAt(398)", x.tokenAt(398), 398);
+        due.is("tokenAt(399)", x.tokenAt(399), -1);
+        outside(x, 399);
+        EditedScanner y = Samples.singles();
+        Samples.edit(y, 0, 0, "9123");
+        outside(y, 0);
+        due.is("tokenAt(2)", y.tokenAt(2), -1);
+    }
+
+    private static void textsWithoutAnything() {
+        outside(new EditedScanner(), 0);
+        outside(Samples.zeros(), 0);
+        EditedScanner emptied = Samples.fullOfSingles();
+        emptied.edit(0, 400, 0L, 0);
+        outside(emptied, 0);
+        EditedScanner cleared = Samples.fullOfSingles();
+        cleared.clear();
+        outside(cleared, 0);
+    }
+
+    private static void outside(EditedScanner x, int end) {
+        int[] places = {Integer.MIN_VALUE, -400, -1, end, end + 1, 400, 401, Integer.MAX_VALUE};
+        for (int place : places) {
+            due.is("tokenAt(" + place + ") behind " + end, x.tokenAt(place), -1);
+        }
     }
 }

@@ -12,6 +12,9 @@ public final class TokenTest {
         noTokenIsWithoutSymbols();
         aTokenAsLongAsTheText();
         asManyTokensAsSymbols();
+        boundsOfTokens();
+        boundsOfWhat();
+        whatItLookedAtStaysWithIt();
         due.end();
     }
 
@@ -115,5 +118,57 @@ public final class TokenTest {
         due.is("count(0)", x.count(0), 399);
         due.is("count(2)", x.count(2), 399);
         due.is("token(399, 0)", x.token(399, 0), -1);
+    }
+
+    /** "-1 if there is none": in an empty, a full, a failed text. */
+    private static void boundsOfTokens() {
+        tokensAre("a new object", new EditedScanner(), 0);
+        tokensAre("an empty text", Samples.singles(), 0);
+        tokensAre("400 tokens", Samples.fullOfSingles(), 400);
+        tokensAre("one token of 400", Samples.fullOfZeros(), 1);
+        tokensAre("399 tokens and a failure", Samples.fullWithFailure(), 399);
+        EditedScanner failed = Samples.singles();
+        Samples.edit(failed, 0, 0, "91");
+        tokensAre("a failure alone", failed, 0);
+        EditedScanner emptied = Samples.fullOfSingles();
+        emptied.edit(0, 400, 0L, 0);
+        tokensAre("an emptied text", emptied, 0);
+        EditedScanner cleared = Samples.fullOfSingles();
+        cleared.clear();
+        tokensAre("a cleared text", cleared, 0);
+    }
+
+    private static void tokensAre(String text, EditedScanner x, int tokens) {
+        int[] none = {Integer.MIN_VALUE, -1, tokens, tokens + 1, 401, Integer.MAX_VALUE};
+        for (int what = 0; what < 4; what++) {
+            for (int i : none) {
+                due.is(text + " token(" + i + ", " + what + ")", x.token(i, what), -1);
+            }
+            if (tokens > 0) {
+                due.is(text + " first", x.token(0, what) >= 0, true);
+                due.is(text + " last", x.token(tokens - 1, what) >= 0, true);
+            }
+        }
+    }
+
+    /** "or for another what": of tokens that there are, and of some that there are not. */
+    private static void boundsOfWhat() {
+        EditedScanner x = Samples.fullOfSingles();
+        for (int what : new int[] {Integer.MIN_VALUE, -2, -1, 4, 5, 6, Integer.MAX_VALUE}) {
+            for (int i : new int[] {Integer.MIN_VALUE, -1, 0, 399, 400, Integer.MAX_VALUE}) {
+                due.is("token(" + i + ", " + what + ")", x.token(i, what), -1);
+            }
+        }
+    }
+
+    /** "3 how many it looked at (the end, too)", whether scanned anew or moved. */
+    private static void whatItLookedAtStaysWithIt() {
+        EditedScanner x = Samples.onesAndQuotes();
+        Samples.edit(x, 0, 0, "1211");
+        due.found("1211", x, "0+1:7/2 1+1:3/4 2+2:7/3");
+        Samples.edit(x, 0, 1, "");
+        due.found("211", x, "0+1:3/4 1+2:7/3");
+        Samples.edit(x, 0, 0, "11111111");
+        due.found("11111111211", x, "0+8:7/9 8+1:3/4 9+2:7/3");
     }
 }
