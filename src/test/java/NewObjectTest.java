@@ -70,8 +70,7 @@ public final class NewObjectTest {
                 Samples.edit(x, 0, 0, digits);
                 boolean circle = state == 0 && symbol == 5;
                 due.found(digits + " by state " + state, x,
-                    circle ? "0+2:8/3" : symbol == 5 && state > 0 ? "0+1:8/2 1+1:8/2"
-                        : "0+1:8/2 1!/1");
+                    circle ? "0+2:8/3" : symbol == 5 ? "0+1:8/2 1+1:8/2" : "0+1:8/2 1!/1");
             }
         }
     }
