@@ -54,6 +54,7 @@ public final class ClearTest {
         return x;
     }
 
+    /** "nothing leads anywhere" */
     private static void nothingLeadsAnywhere() {
         EditedScanner first = clearedArrows();
         for (int symbol = 0; symbol < 10; symbol++) {
@@ -70,6 +71,7 @@ public final class ClearTest {
         }
     }
 
+    /** "no state has a kind" */
     private static void noStateHasAKind() {
         for (int state = 0; state < 20; state++) {
             EditedScanner x = new EditedScanner();
